@@ -33,6 +33,7 @@ public final class PromisesTest {
         alias();
         order();
         nodes();
+        nodesShared();
         nodesOfHolds();
         size();
         CHECKS.end();
@@ -292,6 +293,17 @@ public final class PromisesTest {
         due("size", x.size(0), 7);
 
         x = new PointerClones();
+        x.make(0, 0);
+        x.make(1, 1);
+        x.copy(2, 0);
+        x.copy(2, 1);
+        x.store(0, 0, 0);
+        x.store(1, 0, 1);
+        x.load(3, 2, 0);
+        x.solve();
+        due("load from fields of several objects", x.points(0, 3), 3);
+
+        x = new PointerClones();
         x.call(0, 1);
         x.call(0, 1);
         x.make(0, 0);
@@ -514,6 +526,23 @@ public final class PromisesTest {
         due("contexts 1", x.contexts(1), 3);
         due("contexts 2", x.contexts(2), 3);
         due("contexts 3", x.contexts(3), 3);
+
+        for (int method = 0; method < 4; method++) {
+            int below = (method + 1) % 4;
+            int lowest = (method + 2) % 4;
+            x = new PointerClones();
+            for (int i = 0; i < 4; i++) {
+                x.call(below, method);
+            }
+            x.call(lowest, below);
+            x.call(lowest, below);
+            due("eight of method " + method, x.solve(), 0);
+            due("contexts of method " + method, x.contexts(method), 8);
+            x.call(lowest, below);
+            due("twelve of method " + method, x.solve(), TOO_MANY);
+            due("contexts stay of method " + method, x.contexts(method), 8);
+            due("contexts stay of method " + below, x.contexts(below), 2);
+        }
     }
 
     private static void solveStays() {
@@ -631,6 +660,17 @@ public final class PromisesTest {
         due("all are one group", x.contexts(2), 1);
         due("no call is outer", x.context(4, 0), 0);
         due("one context alone", x.context(4, 1), BAD);
+
+        x = new PointerClones();
+        x.call(3, 0);
+        x.call(0, 2);
+        x.call(2, 3);
+        x.call(1, 2);
+        x.call(1, 3);
+        x.solve();
+        due("a ring through method 0", x.contexts(0), 2);
+        due("a ring through method 0", x.contexts(2), 2);
+        due("a ring through method 0", x.contexts(3), 2);
 
         x = new PointerClones();
         x.call(3, 2);
@@ -775,6 +815,36 @@ public final class PromisesTest {
         due("BAD in any order", x.nodes(2), BAD);
     }
 
+    private static void nodesShared() {
+        CHECKS.begin("promise 17, functions that are the same");
+        PointerClones x = new PointerClones();
+        for (int v = 0; v < 16; v++) {
+            x.make(v, v % 8);
+        }
+        x.solve();
+        // v and v + 8 have the same object, so the highest bit of v does not matter.
+        int[] byOrder = {
+            3 + (1 + 2 + 4) + (8 + 4 + 2), 3 + (1 + 2 + 4) + (8 + 4 + 2), (1 + 2 + 4) + 8 * 3 + (8 + 4 + 2),
+            (1 + 2 + 4) + (8 + 4 + 2) + 3, (1 + 2 + 4) + 8 * 3 + (8 + 4 + 2), (1 + 2 + 4) + (8 + 4 + 2) + 3
+        };
+        for (int order = 0; order < 6; order++) {
+            x.order(order);
+            due("nodes in order " + order, x.nodes(0), byOrder[order]);
+        }
+        for (int v = 0; v < 8; v++) {
+            x.make(v, (v + 1) % 8);
+        }
+        for (int v = 8; v < 16; v++) {
+            x.make(v, (v + 3) % 8);
+        }
+        x.solve();
+        int[] pairsByOrder = {44, 44, 89, 44, 65, 44};
+        for (int order = 0; order < 6; order++) {
+            x.order(order);
+            due("nodes of pairs in order " + order, x.nodes(0), pairsByOrder[order]);
+        }
+    }
+
     private static void nodesOfHolds() {
         CHECKS.begin("promise 17, HOLDS");
         PointerClones x = new PointerClones();
@@ -828,5 +898,15 @@ public final class PromisesTest {
         }
         x.pass(1, 8, 0, false);
         due("size 2", x.size(2), 4);
+
+        x = new PointerClones();
+        for (int call = 0; call < 8; call++) {
+            x.call(0, 1);
+            for (int i = 0; i < 5; i++) {
+                x.pass(call, 4, 0, false);
+            }
+        }
+        due("size 1, all there can be", x.size(1), 8);
+        due("size 2, all there can be", x.size(2), 32);
     }
 }
